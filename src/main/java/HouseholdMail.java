@@ -1009,8 +1009,6 @@ public final class HouseholdMail {
 
     /** Writes the text of a letter. */
     private static final class Composer {
-        private static final int[] FORM_SIGNS = {'f', 'm', 'x'};
-
         private final int[] text = new int[MAX_TEXT];
         private int length;
         private final int[] chosen = new int[MAX_JOINED];
@@ -1066,10 +1064,17 @@ public final class HouseholdMail {
                     return;
                 }
             }
-            put(FORM_SIGNS[form]);
+            put(formSign(form));
             if (draft.size > 1) {
                 put('s');
             }
+        }
+
+        private static int formSign(int form) {
+            if (form == 0) {
+                return 'f';
+            }
+            return form == 1 ? 'm' : 'x';
         }
 
         private void putWords(State state, Draft draft) {
@@ -1091,7 +1096,7 @@ public final class HouseholdMail {
             int seen = 0;
             for (int i = 0; i < draft.size; i++) {
                 int word = state.persons[draft.persons[i]].word;
-                if (word != NONE && (seen & (1 << word)) == 0) {
+                if (word >= 0 && word < state.wordCount && (seen & (1 << word)) == 0) {
                     seen |= 1 << word;
                     chosen[number] = word;
                     number++;

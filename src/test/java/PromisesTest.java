@@ -114,6 +114,10 @@ public final class PromisesTest {
         mail.undo();
         check.is("the 20th once more", mail.addPerson(1, 1), 19);
         check.is("its name once more", Check.name(mail, 19), "zoe");
+        Check.take(mail, "a");
+        check.is("send to 20 persons", mail.send(), 7);
+        check.is("the first one had one", mail.person(0, 6), 1);
+        check.is("the last one had one", mail.person(19, 6), 1);
     }
 
     private static void addWord() {
@@ -140,6 +144,10 @@ public final class PromisesTest {
         mail.undo();
         check.is("the 10th once more", mail.addWord(), 9);
         check.is("its plural", mail.word(9, 1), 1);
+        check.is("a change with 10 words", mail.pass(1), 1);
+        check.is("its undo", mail.undo(), 5);
+        check.is("words then", mail.count(1), 10);
+        check.is("the last word then", mail.word(9, 1), 1);
     }
 
     private static void take() {
@@ -202,6 +210,8 @@ public final class PromisesTest {
         check.is("unsubscribe another", mail.unsubscribe(2, true), 2);
         check.is("unsubscribe again", mail.unsubscribe(2, true), 2);
         check.is("is it", mail.person(2, 4), 1);
+        check.is("unsubscribe the first one", mail.unsubscribe(0, true), 3);
+        check.is("subscribe the first one", mail.unsubscribe(0, false), 2);
         check.is("subscribe", mail.unsubscribe(1, false), 1);
         check.is("is it", mail.person(1, 4), 0);
         check.fails("unsubscribe(4)", mail, INDEX, () -> mail.unsubscribe(4, true));
@@ -477,6 +487,8 @@ public final class PromisesTest {
         mail.pass(1);
         check.is("no word for a joint part", mail.person(0, 8), 3);
         check.is("no letter", mail.person(0, 7), -1);
+        Check.take(mail, "<w>");
+        check.is("no word for the letter", mail.person(0, 8), 3);
         Check.word(mail, "ink");
         mail.give(0, 0);
         check.is("nothing against", mail.person(0, 8), 0);
@@ -517,6 +529,7 @@ public final class PromisesTest {
         check.is("word(0, 17)", mail.word(0, 17), -1);
         Check.word(mail, "abcdefgh");
         check.is("word(3, 17)", mail.word(3, 17), 'h');
+        check.is("article of abcdefgh", mail.word(3, 3), 2);
         for (char first : "iouby".toCharArray()) {
             int number = Check.word(mail, "" + first);
             check.is("article of " + first, mail.word(number, 3), first == 'b' || first == 'y' ? 1 : 2);
@@ -605,6 +618,15 @@ public final class PromisesTest {
         check.is("two of the same form", Check.text(mail, 1), "dear_ms_bob&dan/all_of_you_2_have_an_egg&some_oats.|bye");
         mail.move(0, 7);
         check.is("forms", Check.text(mail, 0), "dear_f_ann/have_an_egg.|bye");
+        mail.move(0, 5);
+        check.is("two forms", Check.text(mail, 0), "dear_all_ann&cyd/all_of_you_2_have_an_egg&some_oats.|bye");
+        mail.give(0, 2);
+        mail.give(2, 1);
+        check.is("words in the order of the persons", Check.text(mail, 0),
+            "dear_all_ann&cyd/all_of_you_2_have_some_oats&a_pen.|bye");
+        mail.give(2, 2);
+        check.is("a word once", Check.text(mail, 0), "dear_all_ann&cyd/all_of_you_2_have_some_oats.|bye");
+        mail.move(0, 7);
         check.fails("sign at the end", mail, INDEX, () -> mail.sign(0, mail.letter(0, 3)));
         check.fails("sign(0, -1)", mail, INDEX, () -> mail.sign(0, -1));
         check.fails("sign(3, 0)", mail, INDEX, () -> mail.sign(3, 0));
@@ -750,6 +772,9 @@ public final class PromisesTest {
         check.is("two pages", mail.narrowest(), 26);
         Check.take(mail, "abcdefghijklmnopqrstuvwxyz_abcdefghijklm");
         check.is("one page", mail.narrowest(), 40);
+        Check.take(mail, "abcdefghijklmnopqrstuvwxyz_abcdefghijklmn");
+        check.is("two pages, though not by 41", mail.narrowest(), 21);
+        mail.undo();
         mail.set(4, 1);
         check.is("one page is allowed", mail.narrowest(), 40);
         Check.take(mail, "a|b");

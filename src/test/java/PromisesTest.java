@@ -371,6 +371,12 @@ public final class PromisesTest {
         errorAt("{a", 2, 2);
         errorAt("a}", 2, 1);
         errorAt("&", 2, 0);
+        HouseholdMail shorter = Check.type(new HouseholdMail(), "ab*");
+        shorter.clearBuffer();
+        Check.type(shorter, "ab");
+        check.is("a cleared star", shorter.firstError(1), 2);
+        check.is("a word without it", shorter.addWord(), 0);
+        check.is("its plural", shorter.word(0, 1), 0);
         HouseholdMail full = new HouseholdMail();
         for (int i = 0; i < 60; i++) {
             full.append(i < 59 ? 'a' : '{');

@@ -1,9 +1,22 @@
-/** What the tests share: comparing answers, expecting exceptions, and typing texts. */
+/** What the tests share: comparing answers and expecting exceptions. */
 final class Check {
+    static final Class<?> INDEX = IndexOutOfBoundsException.class;
+    static final Class<?> ARGUMENT = IllegalArgumentException.class;
+    static final Class<?> STATE = IllegalStateException.class;
+    /** Arguments that are far out of every range. */
+    static final int FAR = Integer.MAX_VALUE;
+    static final int DEEP = Integer.MIN_VALUE;
+
+    private String test = "";
     private int wrong = 0;
 
     interface Call {
         void run();
+    }
+
+    /** What is reported from now on belongs to this test. */
+    void begin(String name) {
+        test = name + ": ";
     }
 
     void is(String what, long got, long want) {
@@ -24,9 +37,14 @@ final class Check {
         }
     }
 
-    /** The call throws just this, and leaves everything as it was. */
-    void fails(String what, HouseholdMail mail, Class<?> due, Call call) {
-        long before = mail.digest();
+    void isNot(String what, long got, long notDue) {
+        if (got == notDue) {
+            report(what + " answered " + got + ", due is another");
+        }
+    }
+
+    /** The call throws just this. */
+    void refuses(String what, Class<?> due, Call call) {
         Class<?> thrown = null;
         try {
             call.run();
@@ -36,14 +54,32 @@ final class Check {
         if (thrown != due) {
             report(what + " threw " + thrown + ", due is " + due);
         }
+    }
+
+    /** The call throws just this, and leaves everything as it was. */
+    void fails(String what, Mail mail, Class<?> due, Call call) {
+        long before = mail.digest();
+        refuses(what, due, call);
         if (mail.digest() != before) {
             report(what + " threw, but changed something");
         }
     }
 
+    void index(String what, Mail mail, Call call) {
+        fails(what, mail, INDEX, call);
+    }
+
+    void argument(String what, Mail mail, Call call) {
+        fails(what, mail, ARGUMENT, call);
+    }
+
+    void state(String what, Mail mail, Call call) {
+        fails(what, mail, STATE, call);
+    }
+
     void report(String line) {
         wrong++;
-        System.out.println(line);
+        System.out.println(test + line);
     }
 
     void end() {
@@ -51,42 +87,5 @@ final class Check {
         if (wrong != 0) {
             System.exit(1);
         }
-    }
-
-    static HouseholdMail type(HouseholdMail mail, String text) {
-        for (int i = 0; i < text.length(); i++) {
-            mail.append(text.charAt(i));
-        }
-        return mail;
-    }
-
-    static int person(HouseholdMail mail, String name, int address, int form) {
-        return type(mail, name).addPerson(address, form);
-    }
-
-    static int word(HouseholdMail mail, String text) {
-        return type(mail, text).addWord();
-    }
-
-    static int take(HouseholdMail mail, String text) {
-        return type(mail, text).take();
-    }
-
-    static String text(HouseholdMail mail, int letter) {
-        StringBuilder text = new StringBuilder();
-        int length = mail.letter(letter, 3);
-        for (int i = 0; i < length; i++) {
-            text.append((char) mail.sign(letter, i));
-        }
-        return text.toString();
-    }
-
-    static String name(HouseholdMail mail, int person) {
-        StringBuilder text = new StringBuilder();
-        int length = mail.person(person, 0);
-        for (int i = 0; i < length; i++) {
-            text.append((char) mail.name(person, i));
-        }
-        return text.toString();
     }
 }

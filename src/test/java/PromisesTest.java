@@ -1,10 +1,10 @@
 /** The promises of the document, one by one: ordinary inputs, edges, and wrong inputs. */
 public final class PromisesTest {
-    private static final Class<?> INDEX = IndexOutOfBoundsException.class;
-    private static final Class<?> ARGUMENT = IllegalArgumentException.class;
-    private static final Class<?> STATE = IllegalStateException.class;
-    private static final int FAR = Integer.MAX_VALUE;
-    private static final int DEEP = Integer.MIN_VALUE;
+    private static final Class<?> INDEX = Check.INDEX;
+    private static final Class<?> ARGUMENT = Check.ARGUMENT;
+    private static final Class<?> STATE = Check.STATE;
+    private static final int FAR = Check.FAR;
+    private static final int DEEP = Check.DEEP;
     private static final int[] LEAST = {5, 1, 1, 0, 1, 1};
     private static final int[] MOST = {40, 20, 6, 30, 9, 20};
     private static final int[] FIRST = {20, 5, 4, 7, 3, 4};
@@ -12,53 +12,19 @@ public final class PromisesTest {
     private static final Check check = new Check();
 
     public static void main(String[] args) {
-        newObject();
-        addPerson();
-        addWord();
-        take();
-        move();
-        give();
-        unsubscribe();
-        set();
-        send();
-        sendOnlySome();
-        pass();
-        append();
-        clearBuffer();
-        firstError();
-        undo();
-        undoOfEachCall();
-        undoOfSend();
-        person();
-        reasons();
-        name();
-        word();
-        letter();
-        layout();
-        sign();
-        longestText();
-        members();
-        count();
-        setting();
-        ifSet();
-        bestJoin();
-        narrowest();
-        readyIn();
-        share();
-        digest();
-        check.end();
+        Tests.run(PromisesTest.class, check);
     }
 
     /** ann, bob and dan live at 3, cyd at 5; ann and dan have an egg, bob a pen, cyd some oats. */
-    private static HouseholdMail example() {
-        HouseholdMail mail = new HouseholdMail();
-        Check.person(mail, "ann", 3, 0);
-        Check.person(mail, "bob", 3, 1);
-        Check.person(mail, "cyd", 5, 2);
-        Check.person(mail, "dan", 3, 1);
-        Check.word(mail, "egg");
-        Check.word(mail, "pen");
-        Check.word(mail, "oats*");
+    private static Mail example() {
+        Mail mail = new Mail();
+        mail.addPerson("ann", 3, 0);
+        mail.addPerson("bob", 3, 1);
+        mail.addPerson("cyd", 5, 2);
+        mail.addPerson("dan", 3, 1);
+        mail.addWord("egg");
+        mail.addWord("pen");
+        mail.addWord("oats*");
         mail.give(0, 0);
         mail.give(1, 1);
         mail.give(2, 2);
@@ -70,8 +36,8 @@ public final class PromisesTest {
         return "p" + (char) ('a' + number);
     }
 
-    private static void newObject() {
-        HouseholdMail mail = new HouseholdMail();
+    static void newObject() {
+        Mail mail = new Mail();
         check.is("NONE", HouseholdMail.NONE, -1);
         for (int what = 0; what <= 14; what++) {
             check.is("count(" + what + ") of a new object", mail.count(what), 0);
@@ -82,9 +48,9 @@ public final class PromisesTest {
         check.is("share() of a new object", mail.share(), 0.0);
     }
 
-    private static void addPerson() {
-        HouseholdMail mail = new HouseholdMail();
-        Check.type(mail, "abcdefgh");
+    static void addPerson() {
+        Mail mail = new Mail();
+        mail.type("abcdefgh");
         check.fails("addPerson(-1, 0)", mail, ARGUMENT, () -> mail.addPerson(-1, 0));
         check.fails("addPerson(20, 0)", mail, ARGUMENT, () -> mail.addPerson(20, 0));
         check.fails("addPerson(far)", mail, ARGUMENT, () -> mail.addPerson(FAR, 0));
@@ -93,53 +59,53 @@ public final class PromisesTest {
         check.is("the first person", mail.addPerson(19, 2), 0);
         check.is("saved states behind it", mail.count(14), 1);
         check.is("the buffer behind it", mail.clearBuffer(), 0);
-        check.is("its name", Check.name(mail, 0), "abcdefgh");
+        check.is("its name", mail.nameOf(0), "abcdefgh");
         int[] values = {8, 19, 2, -1, 0, -1, 0, 0, 0};
         for (int what = 0; what <= 8; what++) {
             check.is("its property " + what, mail.person(0, what), values[what]);
         }
         check.fails("an empty name", mail, ARGUMENT, () -> mail.addPerson(0, 0));
         for (String text : new String[] {"abcdefghi", "ab*", "a_b", "A", "a1", "{", "`", "<n>"}) {
-            Check.type(mail, text);
+            mail.type(text);
             check.fails("addPerson of " + text, mail, ARGUMENT, () -> mail.addPerson(0, 0));
             mail.clearBuffer();
         }
         for (int i = 1; i < 20; i++) {
-            check.is("one person more", Check.person(mail, named(i), 0, 0), i);
+            check.is("one person more", mail.addPerson(named(i), 0, 0), i);
         }
         check.fails("21 persons, no name", mail, ARGUMENT, () -> mail.addPerson(0, 0));
-        Check.type(mail, "zoe");
+        mail.type("zoe");
         check.fails("21 persons, bad form", mail, ARGUMENT, () -> mail.addPerson(0, 3));
         check.fails("21 persons", mail, STATE, () -> mail.addPerson(0, 0));
         mail.undo();
         check.is("the 20th once more", mail.addPerson(1, 1), 19);
-        check.is("its name once more", Check.name(mail, 19), "zoe");
-        Check.take(mail, "a");
+        check.is("its name once more", mail.nameOf(19), "zoe");
+        mail.take("a");
         check.is("send to 20 persons", mail.send(), 7);
         check.is("the first one had one", mail.person(0, 6), 1);
         check.is("the last one had one", mail.person(19, 6), 1);
     }
 
-    private static void addWord() {
-        HouseholdMail mail = new HouseholdMail();
+    static void addWord() {
+        Mail mail = new Mail();
         for (String text : new String[] {"", "*", "abcdefghi", "abcdefghi*", "a**", "a*b", "A", "a_", "a."}) {
-            Check.type(mail, text);
+            mail.type(text);
             check.fails("addWord of " + text, mail, ARGUMENT, mail::addWord);
             mail.clearBuffer();
         }
-        check.is("the first word", Check.word(mail, "abcdefgh*"), 0);
+        check.is("the first word", mail.addWord("abcdefgh*"), 0);
         check.is("saved states behind it", mail.count(14), 1);
         check.is("the buffer behind it", mail.clearBuffer(), 0);
         check.is("its letters", mail.word(0, 0), 8);
         check.is("its plural", mail.word(0, 1), 1);
-        check.is("the second word", Check.word(mail, "a"), 1);
+        check.is("the second word", mail.addWord("a"), 1);
         check.is("its letters", mail.word(1, 0), 1);
         check.is("its plural", mail.word(1, 1), 0);
         for (int i = 2; i < 10; i++) {
-            check.is("one word more", Check.word(mail, "w"), i);
+            check.is("one word more", mail.addWord("w"), i);
         }
         check.fails("11 words, none typed", mail, ARGUMENT, mail::addWord);
-        Check.type(mail, "w*");
+        mail.type("w*");
         check.fails("11 words", mail, STATE, mail::addWord);
         mail.undo();
         check.is("the 10th once more", mail.addWord(), 9);
@@ -150,31 +116,31 @@ public final class PromisesTest {
         check.is("the last word then", mail.word(9, 1), 1);
     }
 
-    private static void take() {
-        HouseholdMail mail = new HouseholdMail();
+    static void take() {
+        Mail mail = new Mail();
         String[] wrong = {"", "<", "<n", "<x>", "<n<", "{", "{}", "{a", "{a{b}}", "a}", "{<n}", "{<n>", "A", "a*", ">",
             "{a}}", "a&b", "{<"};
         for (String text : wrong) {
-            Check.type(mail, text);
+            mail.type(text);
             check.fails("take of " + text, mail, ARGUMENT, mail::take);
             mail.clearBuffer();
         }
-        check.is("take of a", Check.take(mail, "a"), 0);
+        check.is("take of a", mail.take("a"), 0);
         check.is("saved states behind it", mail.count(14), 1);
         check.is("the buffer behind it", mail.clearBuffer(), 0);
-        check.is("take of fields", Check.take(mail, "<n><g>{<w>a<c>}_,./|<n>"), 5);
+        check.is("take of fields", mail.take("<n><g>{<w>a<c>}_,./|<n>"), 5);
         check.is("its fields", mail.count(2), 5);
         check.is("its items", mail.count(13), 12);
-        check.is("take of another", Check.take(mail, "{/}{|}"), 0);
+        check.is("take of another", mail.take("{/}{|}"), 0);
         check.is("its fields", mail.count(2), 0);
         check.is("its items", mail.count(13), 4);
         String full = "{<n><n><n><n><n><n><n><n><n><n><n><n><n><n><n><n><n><n><n>a}";
-        check.is("take of 60 characters", Check.take(mail, full), 19);
+        check.is("take of 60 characters", mail.take(full), 19);
         check.is("its items", mail.count(13), 21);
     }
 
-    private static void move() {
-        HouseholdMail mail = example();
+    static void move() {
+        Mail mail = example();
         check.is("move", mail.move(3, 0), 3);
         check.is("move back", mail.move(3, 19), 0);
         check.is("the address", mail.person(3, 1), 19);
@@ -189,8 +155,8 @@ public final class PromisesTest {
         check.fails("move(0, -1)", mail, ARGUMENT, () -> mail.move(0, -1));
     }
 
-    private static void give() {
-        HouseholdMail mail = example();
+    static void give() {
+        Mail mail = example();
         check.is("give", mail.give(0, 2), 0);
         check.is("give none", mail.give(0, HouseholdMail.NONE), 2);
         check.is("the word", mail.person(0, 3), -1);
@@ -204,8 +170,8 @@ public final class PromisesTest {
         check.fails("give(far)", mail, INDEX, () -> mail.give(FAR, FAR));
     }
 
-    private static void unsubscribe() {
-        HouseholdMail mail = example();
+    static void unsubscribe() {
+        Mail mail = example();
         check.is("unsubscribe", mail.unsubscribe(1, true), 1);
         check.is("unsubscribe another", mail.unsubscribe(2, true), 2);
         check.is("unsubscribe again", mail.unsubscribe(2, true), 2);
@@ -218,8 +184,8 @@ public final class PromisesTest {
         check.fails("unsubscribe(-1)", mail, INDEX, () -> mail.unsubscribe(-1, false));
     }
 
-    private static void set() {
-        HouseholdMail mail = new HouseholdMail();
+    static void set() {
+        Mail mail = new Mail();
         for (int i = 0; i < 6; i++) {
             int setting = i;
             check.is("set to the least", mail.set(i, LEAST[i]), FIRST[i]);
@@ -234,15 +200,15 @@ public final class PromisesTest {
         check.fails("set(6, 1000)", mail, INDEX, () -> mail.set(6, 1000));
     }
 
-    private static void send() {
-        HouseholdMail mail = new HouseholdMail();
+    static void send() {
+        Mail mail = new Mail();
         check.fails("send of nothing", mail, STATE, mail::send);
-        Check.person(mail, "ann", 0, 0);
+        mail.addPerson("ann", 0, 0);
         check.is("an empty letter would be sent", mail.letter(0, 7), 1);
         check.fails("send of an empty letter", mail, STATE, mail::send);
-        Check.person(mail, "bob", 0, 0);
-        Check.person(mail, "cyd", 1, 0);
-        Check.take(mail, "a|b");
+        mail.addPerson("bob", 0, 0);
+        mail.addPerson("cyd", 1, 0);
+        mail.take("a|b");
         mail.pass(5);
         check.is("send", mail.send(), 2);
         check.is("letters so far", mail.count(9), 2);
@@ -272,9 +238,9 @@ public final class PromisesTest {
         check.fails("send to nobody", mail, STATE, mail::send);
     }
 
-    private static void sendOnlySome() {
-        HouseholdMail mail = example();
-        Check.take(mail, "a{|b|c|d}");
+    static void sendOnlySome() {
+        Mail mail = example();
+        mail.take("a{|b|c|d}");
         check.is("letters", mail.count(4), 2);
         check.is("send", mail.send(), 1);
         check.is("cyd had one", mail.person(2, 6), 1);
@@ -284,8 +250,8 @@ public final class PromisesTest {
         check.is("postage so far", mail.count(11), 4);
     }
 
-    private static void pass() {
-        HouseholdMail mail = new HouseholdMail();
+    static void pass() {
+        Mail mail = new Mail();
         check.fails("pass(0)", mail, ARGUMENT, () -> mail.pass(0));
         check.fails("pass(101)", mail, ARGUMENT, () -> mail.pass(101));
         check.fails("pass(far)", mail, ARGUMENT, () -> mail.pass(FAR));
@@ -303,8 +269,8 @@ public final class PromisesTest {
         check.is("the day before", mail.count(3), 9901);
     }
 
-    private static void append() {
-        HouseholdMail mail = new HouseholdMail();
+    static void append() {
+        Mail mail = new Mail();
         check.fails("append(32)", mail, ARGUMENT, () -> mail.append(32));
         check.fails("append(127)", mail, ARGUMENT, () -> mail.append(127));
         check.fails("append(deep)", mail, ARGUMENT, () -> mail.append(DEEP));
@@ -318,9 +284,9 @@ public final class PromisesTest {
         check.is("saved states", mail.count(14), 0);
     }
 
-    private static void clearBuffer() {
-        HouseholdMail mail = new HouseholdMail();
-        Check.type(mail, "a*{");
+    static void clearBuffer() {
+        Mail mail = new Mail();
+        mail.type("a*{");
         long before = mail.digest();
         check.is("clearBuffer()", mail.clearBuffer(), 3);
         check.is("clearBuffer() again", mail.clearBuffer(), 0);
@@ -332,12 +298,12 @@ public final class PromisesTest {
     }
 
     private static void errorAt(String text, int kind, int due) {
-        HouseholdMail mail = Check.type(new HouseholdMail(), text);
+        Mail mail = new Mail().type(text);
         check.is("firstError(" + kind + ") of " + text, mail.firstError(kind), due);
         check.is("the buffer behind it", mail.clearBuffer(), text.length());
     }
 
-    private static void firstError() {
+    static void firstError() {
         errorAt("", 0, 0);
         errorAt("", 1, 0);
         errorAt("", 2, 0);
@@ -371,13 +337,13 @@ public final class PromisesTest {
         errorAt("{a", 2, 2);
         errorAt("a}", 2, 1);
         errorAt("&", 2, 0);
-        HouseholdMail shorter = Check.type(new HouseholdMail(), "ab*");
+        Mail shorter = new Mail().type("ab*");
         shorter.clearBuffer();
-        Check.type(shorter, "ab");
+        shorter.type("ab");
         check.is("a cleared star", shorter.firstError(1), 2);
         check.is("a word without it", shorter.addWord(), 0);
         check.is("its plural", shorter.word(0, 1), 0);
-        HouseholdMail full = new HouseholdMail();
+        Mail full = new Mail();
         for (int i = 0; i < 60; i++) {
             full.append(i < 59 ? 'a' : '{');
         }
@@ -388,14 +354,14 @@ public final class PromisesTest {
         check.fails("firstError(-1)", full, ARGUMENT, () -> full.firstError(-1));
     }
 
-    private static void undo() {
-        HouseholdMail mail = new HouseholdMail();
+    static void undo() {
+        Mail mail = new Mail();
         check.fails("undo of nothing", mail, STATE, mail::undo);
         for (int i = 1; i <= 9; i++) {
             mail.pass(i);
             check.is("saved states", mail.count(14), Math.min(i, 6));
         }
-        Check.type(mail, "ab");
+        mail.type("ab");
         int day = 45;
         for (int left = 5; left >= 0; left--) {
             check.is("undo()", mail.undo(), left);
@@ -410,12 +376,12 @@ public final class PromisesTest {
     }
 
     private interface Change {
-        void on(HouseholdMail mail);
+        void on(Mail mail);
     }
 
     private static void undoes(String what, Change change) {
-        HouseholdMail mail = example();
-        Check.take(mail, "<n>_<w>");
+        Mail mail = example();
+        mail.take("<n>_<w>");
         mail.pass(1);
         mail.undo();
         long before = mail.digest();
@@ -427,10 +393,10 @@ public final class PromisesTest {
         check.is("digest behind undo of " + what, mail.digest(), before);
     }
 
-    private static void undoOfEachCall() {
-        undoes("addPerson", mail -> Check.person(mail, "eve", 3, 0));
-        undoes("addWord", mail -> Check.word(mail, "ink"));
-        undoes("take", mail -> Check.take(mail, "b<c>"));
+    static void undoOfEachCall() {
+        undoes("addPerson", mail -> mail.addPerson("eve", 3, 0));
+        undoes("addWord", mail -> mail.addWord("ink"));
+        undoes("take", mail -> mail.take("b<c>"));
         undoes("move", mail -> mail.move(0, 5));
         undoes("move to the same", mail -> mail.move(0, 3));
         undoes("give", mail -> mail.give(0, 1));
@@ -439,13 +405,13 @@ public final class PromisesTest {
         undoes("unsubscribe of the same", mail -> mail.unsubscribe(0, false));
         undoes("set", mail -> mail.set(0, 5));
         undoes("set of the same", mail -> mail.set(0, 20));
-        undoes("send", HouseholdMail::send);
+        undoes("send", Mail::send);
         undoes("pass", mail -> mail.pass(100));
     }
 
-    private static void undoOfSend() {
-        HouseholdMail mail = example();
-        Check.take(mail, "<n>");
+    static void undoOfSend() {
+        Mail mail = example();
+        mail.take("<n>");
         mail.pass(2);
         mail.send();
         check.is("letters so far", mail.count(9), 2);
@@ -458,10 +424,10 @@ public final class PromisesTest {
         check.is("send again", mail.send(), 2);
     }
 
-    private static void person() {
-        HouseholdMail mail = example();
+    static void person() {
+        Mail mail = example();
         mail.unsubscribe(3, true);
-        Check.take(mail, "<n>");
+        mail.take("<n>");
         int[][] due = {{3, 3, 0, 0, 0, -1, 0, 0, 0}, {3, 3, 1, 1, 0, -1, 0, 0, 0},
             {3, 5, 2, 2, 0, -1, 0, 1, 0}, {3, 3, 1, 0, 1, -1, 0, -1, 1}};
         for (int i = 0; i < 4; i++) {
@@ -476,13 +442,13 @@ public final class PromisesTest {
         check.fails("person(0, -1)", mail, ARGUMENT, () -> mail.person(0, -1));
     }
 
-    private static void reasons() {
-        HouseholdMail mail = new HouseholdMail();
-        Check.person(mail, "ann", 0, 0);
-        Check.take(mail, "a");
+    static void reasons() {
+        Mail mail = new Mail();
+        mail.addPerson("ann", 0, 0);
+        mail.take("a");
         mail.send();
         check.is("had one today", mail.person(0, 8), 2);
-        Check.take(mail, "{<w>}");
+        mail.take("{<w>}");
         check.is("had one, and has no word", mail.person(0, 8), 2);
         mail.unsubscribe(0, true);
         check.is("all three", mail.person(0, 8), 1);
@@ -493,24 +459,24 @@ public final class PromisesTest {
         mail.pass(1);
         check.is("no word for a joint part", mail.person(0, 8), 3);
         check.is("no letter", mail.person(0, 7), -1);
-        Check.take(mail, "<w>");
+        mail.take("<w>");
         check.is("no word for the letter", mail.person(0, 8), 3);
-        Check.word(mail, "ink");
+        mail.addWord("ink");
         mail.give(0, 0);
         check.is("nothing against", mail.person(0, 8), 0);
-        Check.take(mail, "|||");
+        mail.take("|||");
         check.is("four pages", mail.person(0, 8), 4);
         check.is("but a letter", mail.person(0, 7), 0);
         mail.set(4, 4);
         check.is("four pages are allowed", mail.person(0, 8), 0);
-        Check.take(mail, "{|}|||");
+        mail.take("{|}|||");
         check.is("a joint part is not there", mail.person(0, 8), 0);
     }
 
-    private static void name() {
-        HouseholdMail mail = new HouseholdMail();
-        Check.person(mail, "abcdefgh", 0, 0);
-        Check.person(mail, "z", 0, 0);
+    static void name() {
+        Mail mail = new Mail();
+        mail.addPerson("abcdefgh", 0, 0);
+        mail.addPerson("z", 0, 0);
         check.is("name(0, 0)", mail.name(0, 0), 'a');
         check.is("name(0, 7)", mail.name(0, 7), 'h');
         check.is("name(1, 0)", mail.name(1, 0), 'z');
@@ -521,8 +487,8 @@ public final class PromisesTest {
         check.fails("name(-1, 0)", mail, INDEX, () -> mail.name(-1, 0));
     }
 
-    private static void word() {
-        HouseholdMail mail = example();
+    static void word() {
+        Mail mail = example();
         int[][] due = {{3, 0, 2, 2}, {3, 0, 1, 1}, {4, 1, 1, 4}};
         for (int i = 0; i < 3; i++) {
             for (int what = 0; what <= 3; what++) {
@@ -533,11 +499,11 @@ public final class PromisesTest {
         check.is("word(2, 13)", mail.word(2, 13), 's');
         check.is("word(2, 14)", mail.word(2, 14), -1);
         check.is("word(0, 17)", mail.word(0, 17), -1);
-        Check.word(mail, "abcdefgh");
+        mail.addWord("abcdefgh");
         check.is("word(3, 17)", mail.word(3, 17), 'h');
         check.is("article of abcdefgh", mail.word(3, 3), 2);
         for (char first : "iouby".toCharArray()) {
-            int number = Check.word(mail, "" + first);
+            int number = mail.addWord("" + first);
             check.is("article of " + first, mail.word(number, 3), first == 'b' || first == 'y' ? 1 : 2);
         }
         mail.unsubscribe(0, true);
@@ -550,9 +516,9 @@ public final class PromisesTest {
         check.fails("word(9, 4)", mail, INDEX, () -> mail.word(9, 4));
     }
 
-    private static void letter() {
-        HouseholdMail mail = example();
-        Check.take(mail, "dear_<g>_<n>/{all_of_you_<c>_}have_<w>.|bye");
+    static void letter() {
+        Mail mail = example();
+        mail.take("dear_<g>_<n>/{all_of_you_<c>_}have_<w>.|bye");
         mail.set(0, 12);
         mail.set(1, 2);
         int[][] due = {{0, 3, 3, 56, 6, 4, 16, 0}, {2, 1, 5, 30, 4, 3, 12, 1}};
@@ -571,9 +537,9 @@ public final class PromisesTest {
     }
 
     private static void laidOut(String text, int width, int pageLines, int lines, int pages) {
-        HouseholdMail mail = new HouseholdMail();
-        Check.person(mail, "ann", 0, 0);
-        Check.take(mail, text);
+        Mail mail = new Mail();
+        mail.addPerson("ann", 0, 0);
+        mail.take(text);
         mail.set(0, width);
         mail.set(1, pageLines);
         check.is("lines of " + text, mail.letter(0, 4), lines);
@@ -581,7 +547,7 @@ public final class PromisesTest {
         check.is("sent " + text, mail.letter(0, 7), pages <= 3 ? 1 : 0);
     }
 
-    private static void layout() {
+    static void layout() {
         laidOut("abcde", 5, 5, 1, 1);
         laidOut("abcdef", 5, 5, 2, 1);
         laidOut("abcdefghij", 5, 5, 2, 1);
@@ -611,27 +577,27 @@ public final class PromisesTest {
         laidOut("<c>_a,b.", 5, 5, 2, 1);
     }
 
-    private static void sign() {
-        HouseholdMail mail = example();
-        Check.take(mail, "dear_<g>_<n>/{all_of_you_<c>_}have_<w>.|bye");
-        check.is("the joint text", Check.text(mail, 0), "dear_all_ann,bob&dan/all_of_you_3_have_an_egg&a_pen.|bye");
-        check.is("the single text", Check.text(mail, 1), "dear_x_cyd/have_some_oats.|bye");
+    static void sign() {
+        Mail mail = example();
+        mail.take("dear_<g>_<n>/{all_of_you_<c>_}have_<w>.|bye");
+        check.is("the joint text", mail.text(0), "dear_all_ann,bob&dan/all_of_you_3_have_an_egg&a_pen.|bye");
+        check.is("the single text", mail.text(1), "dear_x_cyd/have_some_oats.|bye");
         mail.give(3, 2);
-        check.is("three words", Check.text(mail, 0),
+        check.is("three words", mail.text(0),
             "dear_all_ann,bob&dan/all_of_you_3_have_an_egg,a_pen&some_oats.|bye");
         mail.give(1, 0);
         mail.move(0, 5);
-        check.is("two of the same form", Check.text(mail, 1), "dear_ms_bob&dan/all_of_you_2_have_an_egg&some_oats.|bye");
+        check.is("two of the same form", mail.text(1), "dear_ms_bob&dan/all_of_you_2_have_an_egg&some_oats.|bye");
         mail.move(0, 7);
-        check.is("forms", Check.text(mail, 0), "dear_f_ann/have_an_egg.|bye");
+        check.is("forms", mail.text(0), "dear_f_ann/have_an_egg.|bye");
         mail.move(0, 5);
-        check.is("two forms", Check.text(mail, 0), "dear_all_ann&cyd/all_of_you_2_have_an_egg&some_oats.|bye");
+        check.is("two forms", mail.text(0), "dear_all_ann&cyd/all_of_you_2_have_an_egg&some_oats.|bye");
         mail.give(0, 2);
         mail.give(2, 1);
-        check.is("words in the order of the persons", Check.text(mail, 0),
+        check.is("words in the order of the persons", mail.text(0),
             "dear_all_ann&cyd/all_of_you_2_have_some_oats&a_pen.|bye");
         mail.give(2, 2);
-        check.is("a word once", Check.text(mail, 0), "dear_all_ann&cyd/all_of_you_2_have_some_oats.|bye");
+        check.is("a word once", mail.text(0), "dear_all_ann&cyd/all_of_you_2_have_some_oats.|bye");
         mail.move(0, 7);
         check.fails("sign at the end", mail, INDEX, () -> mail.sign(0, mail.letter(0, 3)));
         check.fails("sign(0, -1)", mail, INDEX, () -> mail.sign(0, -1));
@@ -639,18 +605,18 @@ public final class PromisesTest {
         check.fails("sign(-1, 0)", mail, INDEX, () -> mail.sign(-1, 0));
     }
 
-    private static void longestText() {
-        HouseholdMail mail = new HouseholdMail();
+    static void longestText() {
+        Mail mail = new Mail();
         for (int i = 0; i < 6; i++) {
-            Check.person(mail, "abcdefg" + (char) ('a' + i), 0, 0);
-            Check.word(mail, "abcdefg" + (char) ('a' + i) + "*");
+            mail.addPerson("abcdefg" + (char) ('a' + i), 0, 0);
+            mail.addWord("abcdefg" + (char) ('a' + i) + "*");
             mail.give(i, i);
         }
         mail.set(2, 6);
         mail.set(1, 20);
         mail.set(4, 9);
         mail.set(0, 13);
-        Check.take(mail, "<w><w><w><w><w><w><w><w><w><w><w><w><w><w><w><w><w><w><w><w>");
+        mail.take("<w><w><w><w><w><w><w><w><w><w><w><w><w><w><w><w><w><w><w><w>");
         check.is("its length", mail.letter(0, 3), 1660);
         check.is("its last sign", mail.sign(0, 1659), 'f');
         check.is("its sign in the middle", mail.sign(0, 830 + 5), 'a');
@@ -662,8 +628,8 @@ public final class PromisesTest {
         check.is("its lines by 40", mail.letter(0, 4), 50);
     }
 
-    private static void members() {
-        HouseholdMail mail = example();
+    static void members() {
+        Mail mail = example();
         check.is("members(0)", mail.members(0), 11);
         check.is("members(1)", mail.members(1), 4);
         mail.set(2, 2);
@@ -673,9 +639,9 @@ public final class PromisesTest {
         check.is("members(0) without ann", mail.members(0), 10);
         check.fails("members(2)", mail, INDEX, () -> mail.members(2));
         check.fails("members(-1)", mail, INDEX, () -> mail.members(-1));
-        HouseholdMail many = new HouseholdMail();
+        Mail many = new Mail();
         for (int i = 0; i < 20; i++) {
-            Check.person(many, named(i), i % 2, 0);
+            many.addPerson(named(i), i % 2, 0);
         }
         many.set(2, 6);
         check.is("letters of many", many.count(4), 4);
@@ -684,14 +650,14 @@ public final class PromisesTest {
         check.is("members(3) of many", many.members(3), 0xaa000);
     }
 
-    private static void count() {
-        HouseholdMail mail = example();
-        Check.take(mail, "<n>{|<c>||}|b");
+    static void count() {
+        Mail mail = example();
+        mail.take("<n>{|<c>||}|b");
         mail.unsubscribe(1, true);
         mail.send();
         mail.set(3, 0);
         mail.pass(30);
-        Check.person(mail, "eve", 9, 1);
+        mail.addPerson("eve", 9, 1);
         int[] due = {5, 3, 2, 30, 3, 2, 2, 4, 16, 1, 2, 8, 1, 8, 6};
         for (int what = 0; what <= 14; what++) {
             check.is("count(" + what + ")", mail.count(what), due[what]);
@@ -700,8 +666,8 @@ public final class PromisesTest {
         check.fails("count(-1)", mail, ARGUMENT, () -> mail.count(-1));
     }
 
-    private static void setting() {
-        HouseholdMail mail = new HouseholdMail();
+    static void setting() {
+        Mail mail = new Mail();
         for (int i = 0; i < 6; i++) {
             check.is("setting(" + i + ")", mail.setting(i), FIRST[i]);
         }
@@ -709,9 +675,9 @@ public final class PromisesTest {
         check.fails("setting(-1)", mail, INDEX, () -> mail.setting(-1));
     }
 
-    private static void ifSet() {
-        HouseholdMail mail = example();
-        Check.take(mail, "<n>{/b/c}");
+    static void ifSet() {
+        Mail mail = example();
+        mail.take("<n>{/b/c}");
         mail.set(1, 1);
         int[] now = {2, 4, 4, 16};
         int[] single = {4, 4, 4, 16};
@@ -744,18 +710,18 @@ public final class PromisesTest {
         check.fails("ifSet(-1, 1000, 9)", mail, INDEX, () -> mail.ifSet(-1, 1000, 9));
     }
 
-    private static void bestJoin() {
-        HouseholdMail mail = new HouseholdMail();
+    static void bestJoin() {
+        Mail mail = new Mail();
         for (int i = 0; i < 7; i++) {
-            Check.person(mail, named(i), 2, 0);
+            mail.addPerson(named(i), 2, 0);
         }
-        Check.take(mail, "a");
+        mail.take("a");
         check.is("fewest letters, least value", mail.bestJoin(), 4);
-        Check.take(mail, "a{|||}");
+        mail.take("a{|||}");
         check.is("joint letters are too long", mail.bestJoin(), 1);
-        Check.take(mail, "a{|}");
+        mail.take("a{|}");
         check.is("joint letters have two pages: 7, 7, 5, 4, 4, 3 pages", mail.bestJoin(), 6);
-        Check.take(mail, "<n>");
+        mail.take("<n>");
         mail.set(0, 5);
         mail.set(1, 1);
         mail.set(4, 1);
@@ -768,37 +734,37 @@ public final class PromisesTest {
         check.is("for nobody", mail.bestJoin(), 1);
     }
 
-    private static void narrowest() {
-        HouseholdMail mail = new HouseholdMail();
-        Check.person(mail, "ann", 0, 0);
-        Check.take(mail, "abcdefghijklmnopqrstuvwxyzabcdefghijklmnopqrstuvwxyz");
+    static void narrowest() {
+        Mail mail = new Mail();
+        mail.addPerson("ann", 0, 0);
+        mail.take("abcdefghijklmnopqrstuvwxyzabcdefghijklmnopqrstuvwxyz");
         check.is("five lines", mail.narrowest(), 11);
         mail.set(1, 1);
         mail.set(4, 9);
         check.is("two pages", mail.narrowest(), 26);
-        Check.take(mail, "abcdefghijklmnopqrstuvwxyz_abcdefghijklm");
+        mail.take("abcdefghijklmnopqrstuvwxyz_abcdefghijklm");
         check.is("one page", mail.narrowest(), 40);
-        Check.take(mail, "abcdefghijklmnopqrstuvwxyz_abcdefghijklmn");
+        mail.take("abcdefghijklmnopqrstuvwxyz_abcdefghijklmn");
         check.is("two pages, though not by 41", mail.narrowest(), 21);
         mail.undo();
         mail.set(4, 1);
         check.is("one page is allowed", mail.narrowest(), 40);
-        Check.take(mail, "a|b");
+        mail.take("a|b");
         check.is("nothing is sent", mail.narrowest(), 5);
-        HouseholdMail two = new HouseholdMail();
-        Check.person(two, "ann", 0, 0);
-        Check.person(two, "abcdefgh", 1, 0);
-        Check.take(two, "<n>");
+        Mail two = new Mail();
+        two.addPerson("ann", 0, 0);
+        two.addPerson("abcdefgh", 1, 0);
+        two.take("<n>");
         two.set(1, 1);
         check.is("as many pages together", two.narrowest(), 8);
         two.set(4, 1);
         check.is("as many letters", two.narrowest(), 8);
     }
 
-    private static void readyIn() {
-        HouseholdMail mail = new HouseholdMail();
-        Check.person(mail, "ann", 0, 0);
-        Check.take(mail, "a");
+    static void readyIn() {
+        Mail mail = new Mail();
+        mail.addPerson("ann", 0, 0);
+        mail.take("a");
         check.is("never written to", mail.readyIn(0), 0);
         mail.send();
         check.is("just written to", mail.readyIn(0), 7);
@@ -812,11 +778,11 @@ public final class PromisesTest {
         mail.unsubscribe(0, true);
         check.is("unsubscribed", mail.readyIn(0), -1);
         mail.unsubscribe(0, false);
-        Check.take(mail, "a{<w>}");
+        mail.take("a{<w>}");
         check.is("without a word", mail.readyIn(0), -1);
-        Check.word(mail, "ink");
+        mail.addWord("ink");
         mail.give(0, 0);
-        Check.take(mail, "|||<w>");
+        mail.take("|||<w>");
         check.is("reason 4 does not count", mail.readyIn(0), 27);
         mail.set(3, 0);
         check.is("no pause", mail.readyIn(0), 0);
@@ -824,46 +790,50 @@ public final class PromisesTest {
         check.fails("readyIn(-1)", mail, INDEX, () -> mail.readyIn(-1));
     }
 
-    private static void share() {
-        HouseholdMail mail = example();
+    static void share() {
+        Mail mail = example();
         check.is("all", mail.share(), 1.0);
-        Check.take(mail, "<n>{|||}");
+        mail.take("<n>{|||}");
         check.is("one of four", mail.share(), 0.25);
         mail.unsubscribe(2, true);
         check.is("none", mail.share(), 0.0);
         mail.set(2, 1);
         check.is("three of four", mail.share(), 0.75);
-        Check.person(mail, "eve", 1, 1);
-        Check.person(mail, "fay", 1, 1);
+        mail.addPerson("eve", 1, 1);
+        mail.addPerson("fay", 1, 1);
         mail.unsubscribe(4, true);
         check.is("four of six", mail.share(), 4.0 / 6.0);
     }
 
-    private static void digest() {
-        check.is("digest() of a new object", new HouseholdMail().digest(), digestByHand(new HouseholdMail()));
-        HouseholdMail mail = example();
-        Check.take(mail, "<g>_<n>{_<w>}");
+    static void digest() {
+        check.is("digest() of a new object", new Mail().digest(), digestByHand(new Mail()));
+        Mail mail = example();
+        mail.take("<g>_<n>{_<w>}");
         mail.pass(9);
         mail.send();
-        Check.person(mail, "eve", 1, 1);
+        mail.addPerson("eve", 1, 1);
         mail.give(4, 1);
-        Check.type(mail, "a*");
+        mail.type("a*");
         check.is("digest()", mail.digest(), digestByHand(mail));
-        // Every share of persons, for the bits of its double.
+    }
+
+    static void digestOfEachShare() {
         for (int all = 1; all <= 20; all++) {
-            HouseholdMail shares = new HouseholdMail();
-            for (int i = 0; i < all; i++) {
-                Check.person(shares, "a", i, 0);
-            }
-            for (int out = 0; out < all; out++) {
+            for (int out = 0; out <= all; out++) {
+                Mail shares = new Mail();
+                for (int i = 0; i < all; i++) {
+                    shares.addPerson("a", 0, 0);
+                }
+                for (int i = 0; i < out; i++) {
+                    shares.unsubscribe(i, true);
+                }
                 check.is("digest() of " + (all - out) + " of " + all, shares.digest(), digestByHand(shares));
-                shares.unsubscribe(out, true);
             }
         }
     }
 
     /** The digest put together from the other calls; the buffer is read by taking it out and typing it again. */
-    private static long digestByHand(HouseholdMail mail) {
+    private static long digestByHand(Mail mail) {
         long hash = 2377;
         for (int what = 0; what <= 14; what++) {
             hash = 31 * hash + mail.count(what);
@@ -875,7 +845,7 @@ public final class PromisesTest {
             for (int what = 0; what <= 8; what++) {
                 hash = 31 * hash + mail.person(i, what);
             }
-            for (char sign : Check.name(mail, i).toCharArray()) {
+            for (char sign : mail.nameOf(i).toCharArray()) {
                 hash = 31 * hash + sign;
             }
             hash = 31 * hash + mail.readyIn(i);
@@ -890,7 +860,7 @@ public final class PromisesTest {
                 hash = 31 * hash + mail.letter(i, what);
             }
             hash = 31 * hash + mail.members(i);
-            for (char sign : Check.text(mail, i).toCharArray()) {
+            for (char sign : mail.text(i).toCharArray()) {
                 hash = 31 * hash + sign;
             }
         }
@@ -899,7 +869,7 @@ public final class PromisesTest {
         hash = 31 * hash + Double.doubleToLongBits(mail.share());
         int length = mail.clearBuffer();
         String buffer = length == 0 ? "" : "a*";
-        Check.type(mail, buffer);
+        mail.type(buffer);
         hash = 31 * hash + buffer.length();
         for (char sign : buffer.toCharArray()) {
             hash = 31 * hash + sign;
